@@ -6,9 +6,13 @@ public final class FlashBoard {
     public static final int NONE = -1;
 
     private static final int FLASH_SIZE = 0x800;
+    /** The last address of FLASH, and the mask that turns an address over behind it. */
+    private static final int LAST_WORD = 0x7FF;
     private static final int BOOT = 0x600;
     private static final int PAGE = 32;
     private static final int DATA_SIZE = 0x500;
+    /** Where the REGISTERS of what is joined begin; ports count from here, too. */
+    private static final int JOINED = 0x20;
     private static final int RAM = 0x100;
 
     private static final int INPUT = 0x23;
@@ -89,7 +93,7 @@ public final class FlashBoard {
 
     public int got(int i) throws NoSuchElementException {
         Line line = memory.line;
-        boolean isKept = i >= 0 && i < line.arrived && i < line.kept.length;
+        boolean isKept = i >= 0 && i < line.arrived && i < Line.KEPT;
         if (!isKept) throw new NoSuchElementException("no such byte is kept");
         return line.kept[i];
     }
@@ -130,9 +134,9 @@ public final class FlashBoard {
 
     public int fuses(int v) {
         Flash flash = memory.flash;
-        int old = flash.fuse << 4 | flash.locks;
+        int old = (flash.fuse << 4) | flash.locks;
         flash.locks = v & 15;
-        flash.fuse = v >> 4 & 1;
+        flash.fuse = (v >> 4) & 1;
         return old;
     }
 
@@ -162,7 +166,7 @@ public final class FlashBoard {
             case 5: return entries;
             case 6: return watchdogResets;
             case 7: return memory.flash.busy;
-            case 8: return memory.flash.filledCount;
+            case 8: return Integer.bitCount(memory.flash.filled);
             case 9: return memory.watchdog.count;
             case 10: return memory.timer.prescaler;
             case 11: return memory.line.queued;
@@ -185,9 +189,9 @@ public final class FlashBoard {
     }
 
     private static boolean canBePut(int address) {
-        return address >= 0 && address < 0x20
-            || address >= SP_LOW && address <= SREG
-            || address >= RAM && address < DATA_SIZE;
+        return (address >= 0 && address < JOINED)
+            || (address >= SP_LOW && address <= SREG)
+            || (address >= RAM && address < DATA_SIZE);
     }
 
     private int oneStep() {
@@ -253,10 +257,10 @@ public final class FlashBoard {
         };
 
         final int[] words;
-        final int[] buffer;
-        final boolean[] filled;
         private final int[] cells;
-        int filledCount;
+        private final int[] buffer;
+        /** Bit i is 1 if the BUFFER has its word i. */
+        int filled;
         int locks;
         int fuse;
         int window;
@@ -266,7 +270,6 @@ public final class FlashBoard {
             this.cells = cells;
             words = new int[FLASH_SIZE];
             buffer = new int[PAGE];
-            filled = new boolean[PAGE];
             locks = 15;
             fuse = 1;
             Arrays.fill(words, 0xFFFF);
@@ -276,7 +279,7 @@ public final class FlashBoard {
         void clear() {
             window = 0;
             busy = 0;
-            emptyBuffer();
+            filled = 0;
         }
 
         void cycle() {
@@ -305,7 +308,7 @@ public final class FlashBoard {
 
         /** A word as instructions see it. */
         int seen(int address) {
-            int a = address & FLASH_SIZE - 1;
+            int a = address & LAST_WORD;
             return a < BOOT && (cells[FLASH_CONTROL] & APPLICATION_LOCKED) != 0 ? 0xFFFF : words[a];
         }
 
@@ -317,7 +320,7 @@ public final class FlashBoard {
                 if (z == 1) return locks | 0xF0;
                 return z == 0 ? fuse | 0xFE : 0xFF;
             }
-            int a = z >> 1 & FLASH_SIZE - 1;
+            int a = (z >> 1) & LAST_WORD;
             if (isHidden(a, at)) return 0xFF;
             return (z & 1) == 0 ? seen(a) & 0xFF : seen(a) >> 8;
         }
@@ -330,10 +333,10 @@ public final class FlashBoard {
         void storeControl(int v) {
             int old = cells[FLASH_CONTROL];
             if (busy > 0) {
-                cells[FLASH_CONTROL] = old & 0x7F | v & 0x80;
+                cells[FLASH_CONTROL] = (old & 0x7F) | (v & 0x80);
                 return;
             }
-            cells[FLASH_CONTROL] = old & APPLICATION_LOCKED | v & 0x9F;
+            cells[FLASH_CONTROL] = (old & APPLICATION_LOCKED) | (v & 0x9F);
             window = (v & 1) != 0 ? WINDOW : 0;
         }
 
@@ -342,12 +345,12 @@ public final class FlashBoard {
             if (at < BOOT || busy > 0 || window == 0) return 0;
             window = 0;
             int command = command();
-            if (command == ERASE || command == WRITE) return changePage(command, z >> 6 & 63);
+            if (command == ERASE || command == WRITE) return changePage(command, (z >> 6) & 63);
             if (command == FILL) {
-                fillBuffer(z >> 1 & PAGE - 1, pair);
+                fillBuffer((z >> 1) & (PAGE - 1), pair);
             } else if (command == UNLOCK_APPLICATION) {
                 cells[FLASH_CONTROL] &= ~APPLICATION_LOCKED;
-                emptyBuffer();
+                filled = 0;
             } else if (command == LOCK) {
                 locks &= pair >> 2;
             }
@@ -356,7 +359,7 @@ public final class FlashBoard {
         }
 
         private int command() {
-            return cells[FLASH_CONTROL] >> 1 & 15;
+            return (cells[FLASH_CONTROL] >> 1) & 15;
         }
 
         private void endCommand() {
@@ -364,15 +367,13 @@ public final class FlashBoard {
         }
 
         private void fillBuffer(int i, int pair) {
-            if (filled[i]) return;
-            filled[i] = true;
-            filledCount++;
+            if (hasWord(i)) return;
+            filled |= 1 << i;
             buffer[i] = pair;
         }
 
-        private void emptyBuffer() {
-            Arrays.fill(filled, false);
-            filledCount = 0;
+        private boolean hasWord(int i) {
+            return ((filled >> i) & 1) != 0;
         }
 
         private int changePage(int command, int page) {
@@ -386,7 +387,7 @@ public final class FlashBoard {
                 Arrays.fill(words, first, first + PAGE, 0xFFFF);
             } else {
                 writePage(first);
-                emptyBuffer();
+                filled = 0;
             }
             if (ofBoot) {
                 endCommand();
@@ -399,7 +400,7 @@ public final class FlashBoard {
 
         private void writePage(int first) {
             for (int i = 0; i < PAGE; i++) {
-                if (filled[i]) words[first + i] &= buffer[i];
+                if (hasWord(i)) words[first + i] &= buffer[i];
             }
         }
     }
@@ -414,7 +415,7 @@ public final class FlashBoard {
         }
 
         void cycle() {
-            prescaler = prescaler + 1 & 1023;
+            prescaler = (prescaler + 1) & 1023;
             int clock = cells[TIMER_CLOCK] & 7;
             if (clock != 0 && ticks(clock)) tick();
         }
@@ -435,7 +436,7 @@ public final class FlashBoard {
             if ((cells[TIMER_MODE] & 2) != 0 && count == cells[TIMER_COMPARE]) {
                 count = 0;
             } else {
-                count = count + 1 & 0xFF;
+                count = (count + 1) & 0xFF;
                 if (count == 0) cells[TIMER_FLAGS] |= 1;
             }
             cells[TIMER_COUNT] = count;
@@ -452,6 +453,8 @@ public final class FlashBoard {
         private static final int FAST = 0x02;
         private static final int RECEIVER_ON = 0x10;
         private static final int SENDER_ON = 0x08;
+        private static final int HOST_ROOM = 300;
+        private static final int KEPT = 1000;
 
         private final int[] cells;
         private final int[] hostQueue;
@@ -471,8 +474,8 @@ public final class FlashBoard {
 
         Line(int[] cells) {
             this.cells = cells;
-            hostQueue = new int[300];
-            kept = new int[1000];
+            hostQueue = new int[HOST_ROOM];
+            kept = new int[KEPT];
         }
 
         void clear() {
@@ -485,15 +488,15 @@ public final class FlashBoard {
 
         /** A byte waits at the host. */
         int queue(int b) {
-            if (queued >= hostQueue.length) return NONE;
-            hostQueue[(hostHead + queued) % hostQueue.length] = b;
+            if (queued >= HOST_ROOM) return NONE;
+            hostQueue[(hostHead + queued) % HOST_ROOM] = b;
             queued++;
             return queued;
         }
 
         void storeState(int v) {
             int others = cells[LINE_STATE] & ~FAST & ~(v & ALL_SENT);
-            cells[LINE_STATE] = others | v & FAST;
+            cells[LINE_STATE] = others | (v & FAST);
         }
 
         void storeParts(int v) {
@@ -539,20 +542,20 @@ public final class FlashBoard {
             } else if (queued > 0) {
                 comingByte = hostQueue[hostHead];
                 comingLeft = frame();
-                hostHead = (hostHead + 1) % hostQueue.length;
+                hostHead = (hostHead + 1) % HOST_ROOM;
                 queued--;
             }
         }
 
         private int frame() {
-            int rate = (cells[LINE_RATE_HIGH] & 15) << 8 | cells[LINE_RATE_LOW];
+            int rate = ((cells[LINE_RATE_HIGH] & 15) << 8) | cells[LINE_RATE_LOW];
             return (rate + 1) * ((cells[LINE_STATE] & FAST) != 0 ? 80 : 160);
         }
 
         private void sendOn() {
             sendingLeft--;
             if (sendingLeft > 0) return;
-            if (arrived < kept.length) kept[arrived] = sendingByte;
+            if (arrived < KEPT) kept[arrived] = sendingByte;
             arrived++;
             if (!byteWaits) cells[LINE_STATE] |= ALL_SENT;
         }
@@ -600,14 +603,14 @@ public final class FlashBoard {
         int storeControl(int v) {
             int control = cells[EEPROM_CONTROL];
             boolean wasReady = (control & READY) != 0;
-            control = control & ~ENABLE | v & ENABLE;
+            control = (control & ~ENABLE) | (v & ENABLE);
             if ((v & 4) != 0) {
                 control |= READY;
                 window = WINDOW;
             }
             if ((v & 2) != 0 && wasReady && (control & WRITING) == 0) {
                 bytes[cells[EEPROM_ADDRESS] & 0xFF] = cells[EEPROM_DATA];
-                control = control & ~READY | WRITING;
+                control = (control & ~READY) | WRITING;
                 window = 0;
                 writingLeft = 3400;
             }
@@ -660,10 +663,10 @@ public final class FlashBoard {
             int control = cells[WATCHDOG_CONTROL];
             boolean couldChange = (control & CHANGE) != 0;
             control &= ~(v & FLAG);
-            control = control & ~INTERRUPT | v & INTERRUPT;
+            control = (control & ~INTERRUPT) | (v & INTERRUPT);
             if (couldChange && (v & CHANGE) == 0) {
                 // Bit 3 of the causes stands where RESETS does, and keeps it at 1.
-                control = control & 0xC0 | v & 0x2F | cells[CAUSES] & BY_WATCHDOG;
+                control = (control & 0xC0) | (v & 0x2F) | (cells[CAUSES] & BY_WATCHDOG);
                 window = 0;
             } else if ((v & CHANGE) != 0 && (v & RESETS) != 0) {
                 control |= CHANGE;
@@ -692,7 +695,7 @@ public final class FlashBoard {
         }
 
         private static int limit(int control) {
-            int period = control >> 2 & 8 | control & 7;
+            int period = ((control >> 2) & 8) | (control & 7);
             return 4096 << (period < 11 ? period : 11);
         }
     }
@@ -725,7 +728,7 @@ public final class FlashBoard {
             if (cause == BY_POWER) {
                 Arrays.fill(cells, 0);
             } else {
-                Arrays.fill(cells, 0x20, RAM, 0);
+                Arrays.fill(cells, JOINED, RAM, 0);
             }
             cells[CAUSES] = causes;
             vectorWindow = 0;
@@ -754,14 +757,14 @@ public final class FlashBoard {
             if (address == LINE_DATA) return line.take();
             if (address == INPUT) {
                 int outward = cells[DIRECTION];
-                return cells[OUTPUT] & outward | pinLevels & ~outward;
+                return (cells[OUTPUT] & outward) | (pinLevels & ~outward);
             }
             return cells[address];
         }
 
         void store(int address, int v) {
             if (address < 0 || address >= DATA_SIZE) return;
-            if (address < 0x20 || address >= RAM) {
+            if (address < JOINED || address >= RAM) {
                 cells[address] = v;
                 return;
             }
@@ -798,11 +801,11 @@ public final class FlashBoard {
         }
 
         int stackPointer() {
-            return cells[SP_HIGH] << 8 | cells[SP_LOW];
+            return (cells[SP_HIGH] << 8) | cells[SP_LOW];
         }
 
         private void moveStack(int sp) {
-            cells[SP_HIGH] = sp >> 8 & 0xFF;
+            cells[SP_HIGH] = (sp >> 8) & 0xFF;
             cells[SP_LOW] = sp & 0xFF;
         }
 
@@ -878,13 +881,13 @@ public final class FlashBoard {
 
         /** One more or less; V is set where the result is a certain one. */
         int count(int x, int by, int overflowing) {
-            int r = x + by & 0xFF;
+            int r = (x + by) & 0xFF;
             mark(S | V | N | Z, signs(r, 0x80, r == overflowing));
             return r;
         }
 
         int shiftRight(int x, int incoming) {
-            int r = x >> 1 | incoming << 7;
+            int r = (x >> 1) | (incoming << 7);
             boolean out = (x & 1) != 0;
             boolean negative = (r & 0x80) != 0;
             mark(S | V | N | Z | C, signs(r, 0x80, negative != out) | (out ? C : 0));
@@ -914,7 +917,7 @@ public final class FlashBoard {
         }
 
         private void mark(int which, int flags) {
-            cells[SREG] = cells[SREG] & ~which | flags;
+            cells[SREG] = (cells[SREG] & ~which) | flags;
         }
 
         private static int signs(int r, int signBit, boolean overflow) {
@@ -981,10 +984,7 @@ public final class FlashBoard {
             heldBack = false;
             pushPc();
             switch (interrupt) {
-                case 1:
-                    boolean resetsToo = (cells[WATCHDOG_CONTROL] & 0x08) != 0;
-                    cells[WATCHDOG_CONTROL] &= resetsToo ? ~0xC0 : ~0x80;
-                    break;
+                case 1: cells[WATCHDOG_CONTROL] &= (cells[WATCHDOG_CONTROL] & 0x08) != 0 ? ~0xC0 : ~0x80; break;
                 case 2: cells[TIMER_FLAGS] &= ~2; break;
                 case 3: cells[TIMER_FLAGS] &= ~1; break;
                 case 6: cells[LINE_STATE] &= ~0x40; break;
@@ -1013,7 +1013,9 @@ public final class FlashBoard {
                 case 0xF: return byBit(w);
                 case 0x90: return loadInto(w);
                 case 0x91: return storeFrom(w);
-                case 0x92: return isControl(w) ? control(w) : ofOne(w);
+                case 0x92:
+                    if ((w & 0xC) == 0xC) return toNext(w);
+                    return isControl(w) ? control(w) : ofOne(w);
                 case 0x93: return ofPair(w);
                 case 0x94: case 0x95: return portBit(w);
                 case 0x96: case 0x97: return multiply(cells[first(w)] * cells[second(w)], false);
@@ -1024,33 +1026,33 @@ public final class FlashBoard {
         /** A word's highest digit; with digit 9, also its next three bits. */
         private static int kind(int w) {
             int digit = w >> 12;
-            return digit == 9 ? 0x90 | w >> 9 & 7 : digit;
+            return digit == 9 ? 0x90 | ((w >> 9) & 7) : digit;
         }
 
         private static boolean isControl(int w) {
-            return (w & 8) != 0 && (w & 15) != 0xA;
+            return (w & 15) == 8 || (w & 15) == 9;
         }
 
         private int nextWord() {
             int w = flash.seen(pc);
-            pc = pc + 1 & FLASH_SIZE - 1;
+            pc = (pc + 1) & LAST_WORD;
             return w;
         }
 
-        private int first(int w) {
-            return w >> 4 & 31;
+        private static int first(int w) {
+            return (w >> 4) & 31;
         }
 
-        private int second(int w) {
-            return w >> 5 & 16 | w & 15;
+        private static int second(int w) {
+            return ((w >> 5) & 16) | (w & 15);
         }
 
         private int pair(int low) {
-            return cells[low + 1] << 8 | cells[low];
+            return (cells[low + 1] << 8) | cells[low];
         }
 
         private void setPair(int low, int v) {
-            cells[low + 1] = v >> 8 & 0xFF;
+            cells[low + 1] = (v >> 8) & 0xFF;
             cells[low] = v & 0xFF;
         }
 
@@ -1062,12 +1064,13 @@ public final class FlashBoard {
 
         private void popPc() {
             int high = memory.pop();
-            pc = (high << 8 | memory.pop()) & FLASH_SIZE - 1;
+            int low = memory.pop();
+            pc = ((high << 8) | low) & LAST_WORD;
         }
 
         /** PC turns over at 800, so the sign of these 12 bits needs no care. */
         private int jumpBy(int w, int due) {
-            pc = pc + w & FLASH_SIZE - 1;
+            pc = (pc + w) & LAST_WORD;
             return due;
         }
 
@@ -1083,7 +1086,7 @@ public final class FlashBoard {
         private int zeroes(int w) {
             int d = first(w);
             int y = cells[second(w)];
-            switch (w >> 10 & 3) {
+            switch ((w >> 10) & 3) {
                 case 1:
                     alu.subtractOn(cells[d], y);
                     return 1;
@@ -1095,9 +1098,9 @@ public final class FlashBoard {
                     return 1;
                 default: break;
             }
-            int high = w >> 4 & 15;
+            int high = (w >> 4) & 15;
             int low = w & 15;
-            switch (w >> 8 & 3) {
+            switch ((w >> 8) & 3) {
                 case 1:
                     setPair(2 * high, pair(2 * low));
                     return 1;
@@ -1108,9 +1111,9 @@ public final class FlashBoard {
         }
 
         private int multiplyMixed(int w) {
-            int x = cells[16 + (w >> 4 & 7)];
+            int x = cells[16 + ((w >> 4) & 7)];
             int y = cells[16 + (w & 7)];
-            switch (w >> 3 & 0x11) {
+            switch ((w >> 3) & 0x11) {
                 case 0x00: return multiply(Alu.signed(x) * y, false);
                 case 0x01: return multiply(x * y, true);
                 case 0x10: return multiply(Alu.signed(x) * Alu.signed(y), true);
@@ -1129,7 +1132,7 @@ public final class FlashBoard {
             int d = first(w);
             int x = cells[d];
             int y = cells[second(w)];
-            switch (w >> 10 & 3) {
+            switch ((w >> 10) & 3) {
                 case 0: return skipIf(x == y);
                 case 1:
                     alu.subtract(x, y, 0);
@@ -1146,7 +1149,7 @@ public final class FlashBoard {
         private int logicOfTwo(int w) {
             int d = first(w);
             int y = cells[second(w)];
-            switch (w >> 10 & 3) {
+            switch ((w >> 10) & 3) {
                 case 0: cells[d] = alu.logic(cells[d] & y); break;
                 case 1: cells[d] = alu.logic(cells[d] ^ y); break;
                 case 2: cells[d] = alu.logic(cells[d] | y); break;
@@ -1156,8 +1159,8 @@ public final class FlashBoard {
         }
 
         private int withNumber(int w) {
-            int d = 16 + (w >> 4 & 15);
-            int k = w >> 4 & 0xF0 | w & 15;
+            int d = 16 + ((w >> 4) & 15);
+            int k = ((w >> 4) & 0xF0) | (w & 15);
             int x = cells[d];
             switch (w >> 12) {
                 case 0x3: alu.subtract(x, k, 0); break;
@@ -1172,8 +1175,8 @@ public final class FlashBoard {
 
         /** LOADED, STORED at Y or Z and a number. */
         private int atDistance(int w) {
-            int q = w >> 8 & 0x20 | w >> 7 & 0x18 | w & 7;
-            int address = pair((w & 8) != 0 ? Y : Z) + q & 0xFFFF;
+            int q = ((w >> 8) & 0x20) | ((w >> 7) & 0x18) | (w & 7);
+            int address = (pair((w & 8) != 0 ? Y : Z) + q) & 0xFFFF;
             if ((w & 0x200) != 0) {
                 memory.store(address, cells[first(w)]);
             } else {
@@ -1243,7 +1246,7 @@ public final class FlashBoard {
             switch (w & 15) {
                 case 0x0: cells[d] = alu.invert(x); break;
                 case 0x1: cells[d] = alu.subtract(0, x, 0); break;
-                case 0x2: cells[d] = x >> 4 | (x & 15) << 4; break;
+                case 0x2: cells[d] = (x >> 4) | ((x & 15) << 4); break;
                 case 0x3: cells[d] = alu.count(x, 1, 0x80); break;
                 case 0x5: cells[d] = alu.shiftRight(x, x >> 7); break;
                 case 0x6: cells[d] = alu.shiftRight(x, 0); break;
@@ -1254,18 +1257,19 @@ public final class FlashBoard {
             return 1;
         }
 
-        /** Jumps, calls, returns, bits of SREG, and the words that are one instruction each. */
+        /** To the NEXT word's address: a jump or a call. */
+        private int toNext(int w) {
+            boolean calls = (w & 2) != 0;
+            int target = nextWord() & LAST_WORD;
+            if (calls) pushPc();
+            pc = target;
+            return calls ? 4 : 3;
+        }
+
+        /** Bits of SREG, and the words that are one instruction each. */
         private int control(int w) {
             if ((w & 0xFF0F) == 0x9408) return statusBit(w);
-            switch ((w & 0xC) == 0xC ? w & 0xE : w) {
-                case 0xC:
-                    pc = nextWord() & FLASH_SIZE - 1;
-                    return 3;
-                case 0xE:
-                    int target = nextWord() & FLASH_SIZE - 1;
-                    pushPc();
-                    pc = target;
-                    return 4;
+            switch (w) {
                 case 0x9508:
                     popPc();
                     return 4;
@@ -1284,18 +1288,18 @@ public final class FlashBoard {
                     return 3;
                 case 0x95E8: return 1 + flash.program(at, pair(Z), pair(0));
                 case 0x9409:
-                    pc = pair(Z) & FLASH_SIZE - 1;
+                    pc = pair(Z) & LAST_WORD;
                     return 2;
                 case 0x9509:
                     pushPc();
-                    pc = pair(Z) & FLASH_SIZE - 1;
+                    pc = pair(Z) & LAST_WORD;
                     return 3;
                 default: return 1;
             }
         }
 
         private int statusBit(int w) {
-            int bit = 1 << (w >> 4 & 7);
+            int bit = 1 << ((w >> 4) & 7);
             if ((w & 0x80) == 0) {
                 cells[SREG] |= bit;
             } else {
@@ -1305,19 +1309,19 @@ public final class FlashBoard {
         }
 
         private int ofPair(int w) {
-            int low = 24 + 2 * (w >> 4 & 3);
-            int k = w >> 2 & 0x30 | w & 15;
+            int low = 24 + 2 * ((w >> 4) & 3);
+            int k = ((w >> 2) & 0x30) | (w & 15);
             boolean more = (w & 0x100) == 0;
             setPair(low, more ? alu.addToPair(pair(low), k) : alu.subtractFromPair(pair(low), k));
             return 2;
         }
 
         private int portBit(int w) {
-            int address = 0x20 + (w >> 3 & 31);
+            int address = JOINED + ((w >> 3) & 31);
             int bit = 1 << (w & 7);
             boolean one = (w & 0x200) != 0;
             int v = memory.load(address);
-            if ((w & 0x100) != 0) return skipIf((v & bit) != 0 == one);
+            if ((w & 0x100) != 0) return skipIf(((v & bit) != 0) == one);
             boolean alone = address == INPUT || address == TIMER_FLAGS;
             if (one) {
                 memory.store(address, alone ? bit : v | bit);
@@ -1328,7 +1332,7 @@ public final class FlashBoard {
         }
 
         private int port(int w) {
-            int address = 0x20 + (w >> 5 & 0x30 | w & 15);
+            int address = JOINED + (((w >> 5) & 0x30) | (w & 15));
             if ((w & 0x800) != 0) {
                 memory.store(address, cells[first(w)]);
             } else {
@@ -1339,17 +1343,17 @@ public final class FlashBoard {
 
         private int byBit(int w) {
             int number = w & 7;
-            if ((w & 0x800) == 0) return branch(w, (cells[SREG] >> number & 1) != 0);
+            if ((w & 0x800) == 0) return branch(w, ((cells[SREG] >> number) & 1) != 0);
             if ((w & 8) != 0) return 1;
             int d = first(w);
-            boolean isOne = (cells[d] >> number & 1) != 0;
-            switch (w >> 9 & 3) {
+            boolean isOne = ((cells[d] >> number) & 1) != 0;
+            switch ((w >> 9) & 3) {
                 case 0:
                     int t = (cells[SREG] & T) != 0 ? 1 : 0;
-                    cells[d] = cells[d] & ~(1 << number) | t << number;
+                    cells[d] = (cells[d] & ~(1 << number)) | (t << number);
                     return 1;
                 case 1:
-                    cells[SREG] = cells[SREG] & ~T | (isOne ? T : 0);
+                    cells[SREG] = (cells[SREG] & ~T) | (isOne ? T : 0);
                     return 1;
                 case 2: return skipIf(!isOne);
                 default: return skipIf(isOne);
@@ -1359,8 +1363,8 @@ public final class FlashBoard {
         private int branch(int w, boolean isOne) {
             boolean wantsOne = (w & 0x400) == 0;
             if (isOne != wantsOne) return 1;
-            int k = w >> 3 & 0x7F;
-            pc = pc + (k < 0x40 ? k : k - 0x80) & FLASH_SIZE - 1;
+            int k = (w >> 3) & 0x7F;
+            pc = (pc + (k < 0x40 ? k : k - 0x80)) & LAST_WORD;
             return 2;
         }
     }
