@@ -981,7 +981,6 @@ public final class FlashBoard {
         /** The ENTRY of an interrupt. */
         void enter(int interrupt) {
             sleeps = false;
-            heldBack = false;
             pushPc();
             switch (interrupt) {
                 case 1: cells[WATCHDOG_CONTROL] &= (cells[WATCHDOG_CONTROL] & 0x08) != 0 ? ~0xC0 : ~0x80; break;

@@ -15,6 +15,7 @@ public final class FlashTest {
         lockBits();
         fuseBytes();
         hiddenBytes();
+        bytesAtTheEdge();
         others();
         C.end();
     }
@@ -238,6 +239,33 @@ public final class FlashTest {
         b.burn(0, 0xA1A2A3A4, 0, 0, 0, 0);
         b.run(8);
         C.due("behind the WINDOW", b.data(20), 0xA2);
+    }
+
+    /** All LOCKS as a byte; no WINDOW; instructions at 5FF and 600. */
+    private static void bytesAtTheEdge() {
+        for (int locks = 0; locks < 16; locks++) {
+            FlashBoard b = new Code().z(1).ldi(24, 9).out(0x57, 24).w(0x9144).board(FREE);
+            b.fuses(locks);
+            b.run(5);
+            C.due("LOCKS " + locks, b.data(20), 0xF0 + locks);
+        }
+        FlashBoard b = new Code().z(1).ldi(24, 8).out(0x57, 24).w(0x9144).board(FREE);
+        b.burn(0, 0xA1A2A3A4, 0, 0, 0, 0);
+        b.run(5);
+        C.due("without a WINDOW the word's byte", b.data(20), 0xA1);
+        C.due("and 57 stays", b.data(0x57), 8);
+        for (int at = 0x5FF; at <= 0x600; at++) {
+            b = new Code().w(0x9144).board(at);
+            b.burn(0, 0xA1A2A3A4, 0, 0, 0, 0);
+            b.fuses(0x15);
+            b.put(30, 0);
+            b.run(1);
+            C.due("of the APPLICATION, at " + at, b.data(20), at < 0x600 ? 0xA2 : 0xFF);
+            b.start(at);
+            b.put(31, 0x0C);
+            b.run(1);
+            C.due("of the BOOT SECTION, at " + at, b.data(20), at < 0x600 ? 0xFF : b.word(0x600) & 255);
+        }
     }
 
     private static void hiddenBytes() {

@@ -35,6 +35,8 @@ public final class InstructionTest {
         products();
         ofOne();
         pairs();
+        allSums();
+        allPairs();
         bits();
         skips();
         ports();
@@ -135,6 +137,59 @@ public final class InstructionTest {
         one("SBIW R31 R30, 1", words(0x9731), 0, at(30, 0, 31, 0), at(2, 0x41, S | N | CY), at(30, 0xFF, 31, 0xFF));
         one("SBIW 8000", words(0x9721), 0, at(28, 0, 29, 0x80), at(2, 0x41, S | V), at(28, 0xFF, 29, 0x7F));
         one("SBIW to 0", words(0x97CF), 0, at(24, 0x3F, 25, 0), at(2, 0x41, Z), at(24, 0, 25, 0));
+    }
+
+    private static int flags(boolean h, boolean n, boolean v, boolean z, boolean c) {
+        return (h ? H : 0) | (n != v ? S : 0) | (v ? V : 0) | (n ? N : 0) | (z ? Z : 0) | (c ? CY : 0);
+    }
+
+    /** ADC and SBC of R16, R17 with every x, y, C and Z. */
+    private static void allSums() {
+        FlashBoard b = new Code().w(0x1F01, 0x0B01).board(0);
+        for (int i = 0; i < 0x40000; i++) {
+            int x = i & 255;
+            int y = i >> 8 & 255;
+            int sreg = i >> 16;
+            int c = sreg & 1;
+            int sum = x + y + c;
+            boolean v = (byte) x + (byte) y + c != (byte) sum;
+            step(b, 0, x, y, sreg);
+            C.due("ADC", b.data(16), sum & 255);
+            C.due("ADC: SREG", b.data(0x5F), flags((x & 15) + (y & 15) + c > 15, (sum & 128) != 0, v, (sum & 255) == 0, sum > 255));
+            int rest = x - y - c;
+            v = (byte) x - (byte) y - c != (byte) rest;
+            step(b, 1, x, y, sreg);
+            C.due("SBC", b.data(16), rest & 255);
+            boolean z = (rest & 255) == 0 && (sreg & 2) != 0;
+            C.due("SBC: SREG", b.data(0x5F), flags((x & 15) < (y & 15) + c, (rest & 128) != 0, v, z, rest < 0));
+        }
+    }
+
+    private static void step(FlashBoard b, int address, int x, int y, int sreg) {
+        b.start(address);
+        b.put(16, x);
+        b.put(17, y);
+        b.put(0x5F, sreg);
+        b.step();
+    }
+
+    /** ADIW, SBIW by 1 and 3F of every pair. */
+    private static void allPairs() {
+        FlashBoard b = new Code().w(0x9601, 0x96CF, 0x9701, 0x97CF).board(0);
+        for (int i = 0; i < 0x40000; i++) {
+            int pair = i & 0xFFFF;
+            int which = i >> 16;
+            int exact = pair + (which < 2 ? 1 : -1) * (which % 2 == 0 ? 1 : 0x3F);
+            b.start(which);
+            b.put(24, pair);
+            b.put(25, pair >> 8);
+            b.put(0x5F, 0);
+            b.step();
+            C.due("pair", b.data(25) << 8 | b.data(24), exact & 0xFFFF);
+            boolean n = (exact & 0x8000) != 0;
+            boolean v = n != ((pair & 0x8000) != 0) && n == which < 2;
+            C.due("pair: SREG", b.data(0x5F), flags(false, n, v, (exact & 0xFFFF) == 0, exact != (exact & 0xFFFF)));
+        }
     }
 
     private static void bits() {

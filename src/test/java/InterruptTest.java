@@ -107,14 +107,14 @@ public final class InterruptTest {
     }
 
     private static void watchdog() {
-        for (int v : new int[] {0x40, 0x48}) {
+        for (int v : new int[] {0x40, 0x41, 0x48, 0x49}) {
             FlashBoard b = new Code().ldi(24, 0x18).ldi(25, v).sts(0x60, 24).sts(0x60, 25).w(0x9588).board(0x100);
             b.put(0x5E, 4);
             b.run(5);
-            b.pass(4093);
+            b.pass((v & 1) != 0 ? 8189 : 4093);
             b.put(0x5F, 0x80);
             enters("watchdog, " + v, b, 1);
-            C.due("60", b.data(0x60), v == 0x40 ? 0x40 : 8);
+            C.due("60", b.data(0x60), (v & 8) == 0 ? v : v & 0xF);
         }
     }
 
