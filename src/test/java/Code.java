@@ -74,6 +74,19 @@ final class Code {
         return this;
     }
 
+    /** A pair of registers, SP, or two bytes of RAM, the low one first. */
+    static void pair(FlashBoard board, int low, int v) {
+        board.put(low, v);
+        board.put(low + 1, v >> 8);
+    }
+
+    /** Steps until so many cycles have gone by, in as many calls of pass as that takes. */
+    static int passLong(FlashBoard board, int cycles) {
+        int gone = 0;
+        while (gone < cycles) gone += board.pass(Math.min(200000, cycles - gone));
+        return gone;
+    }
+
     /** A new board with these words from an address on, at which it starts. */
     FlashBoard board(int address) {
         FlashBoard board = new FlashBoard();
