@@ -18,7 +18,7 @@ final class Readings {
     static final int PINS = GOT + 1001;
     static final int FUSES = PINS + 1;
     static final int ALL = FUSES + 1;
-
+    /** How many calls the making of a board takes at most, unless another number is told. */
     private static final int MAKING = 90;
 
     private Readings() {
