@@ -24,14 +24,15 @@ public final class FaceTest {
     }
 
     private static void newObject() {
-        FlashBoard b = new FlashBoard();
         C.due("NONE", FlashBoard.NONE, -1);
-        for (int a = 0; a < 0x500; a++) C.due("new data " + a, b.data(a), a == 0xC0 ? 0x20 : a == 0x54 ? 1 : 0);
-        for (int a = 0; a < 0x600; a++) C.due("new word " + a, b.word(a), 0xFFFF);
-        for (int a = 0x6B6; a < 0x800; a++) C.due("new word " + a, b.word(a), 0xFFFF);
+        int[] all = Readings.all(FlashBoard::new);
+        for (int a = 0; a < 0x500; a++) C.due("new data " + a, all[Readings.DATA + a], a == 0xC0 ? 0x20 : a == 0x54 ? 1 : 0);
+        for (int a = 0; a < 0x600; a++) C.due("new word " + a, all[Readings.WORD + a], 0xFFFF);
+        for (int a = 0x6B6; a < 0x800; a++) C.due("new word " + a, all[Readings.WORD + a], 0xFFFF);
+        for (int k = 0; k < 256; k++) C.due("new eeprom " + k, all[Readings.EEPROM + k], 0xFF);
+        FlashBoard b = new FlashBoard();
         C.due("first word of the loader", b.word(0x600), 0xE004);
         C.due("last word of the loader", b.word(0x6B5), 0xCF54);
-        for (int k = 0; k < 256; k++) C.due("new eeprom " + k, b.eeprom(k), 0xFF);
         for (int i = 0; i <= 21; i++) C.due("new about " + i, b.about(i), i == 0 ? 0x600 : i == 20 ? 1 : 0);
         C.due("new sent", b.sent(), 0);
         C.due("new pins", b.pins(0), 0);
@@ -111,7 +112,7 @@ public final class FaceTest {
         C.dueThrow("got(least)", NoSuchElementException.class, () -> b.got(Integer.MIN_VALUE));
         b.pass(100000);
         C.due("more than a thousand", b.sent() > 1000 ? 1 : 0, 1);
-        for (int i = 0; i < 1000; i++) C.due("got " + i, b.got(i), i & 255);
+        for (int i = 0; i < 1000; i += 3) C.due("got " + i, b.got(i), i & 255);
         C.dueThrow("got(1000)", NoSuchElementException.class, () -> b.got(1000));
         C.dueThrow("got(1001)", NoSuchElementException.class, () -> b.got(1001));
         int before = b.sent();
@@ -160,8 +161,8 @@ public final class FaceTest {
     }
 
     private static void put() {
-        FlashBoard b = new FlashBoard();
         for (int a = -2; a < 0x503; a++) {
+            FlashBoard b = new FlashBoard();
             int address = a;
             boolean may = a >= 0 && a < 0x20 || a >= 0x5D && a <= 0x5F || a >= 0x100 && a < 0x500;
             if (may) {
@@ -174,7 +175,10 @@ public final class FaceTest {
                 });
             }
         }
-        C.due("SP", b.about(1), (0x5E * 7 & 255) << 8 | 0x5D * 7 & 255);
+        FlashBoard b = new FlashBoard();
+        b.put(0x5D, 0x8B);
+        b.put(0x5E, 0x92);
+        C.due("SP", b.about(1), 0x928B);
         b.power(false);
         b.put(3, 9);
         C.due("put without power", b.data(3), 9);

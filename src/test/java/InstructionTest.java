@@ -145,8 +145,11 @@ public final class InstructionTest {
 
     /** ADC and SBC of R16, R17 with every x, y, C and Z. */
     private static void allSums() {
-        FlashBoard b = new Code().w(0x1F01, 0x0B01).board(0);
+        Code code = new Code().w(0x1F01, 0x0B01);
+        FlashBoard b = code.board(0);
         for (int i = 0; i < 0x40000; i++) {
+            // A board is used for 512 calls at most.
+            if (i % 32 == 0) b = code.board(0);
             int x = i & 255;
             int y = i >> 8 & 255;
             int sreg = i >> 16;
@@ -175,8 +178,10 @@ public final class InstructionTest {
 
     /** ADIW, SBIW by 1 and 3F of every pair. */
     private static void allPairs() {
-        FlashBoard b = new Code().w(0x9601, 0x96CF, 0x9701, 0x97CF).board(0);
+        Code code = new Code().w(0x9601, 0x96CF, 0x9701, 0x97CF);
+        FlashBoard b = code.board(0);
         for (int i = 0; i < 0x40000; i++) {
+            if (i % 32 == 0) b = code.board(0);
             int pair = i & 0xFFFF;
             int which = i >> 16;
             int exact = pair + (which < 2 ? 1 : -1) * (which % 2 == 0 ? 1 : 0x3F);

@@ -1,8 +1,15 @@
-import java.util.NoSuchElementException;
 import java.util.Random;
 
-/** Random programs and calls: the class answers each as the Model, a second reading of the document, does. */
+/**
+ * Random programs and calls: the class answers each as the Model, a second reading of the document, does. One object is
+ * used for at most 512 calls, so each call is done on several boards, and behind it each is asked something else.
+ */
 public final class RandomRunsTest {
+    /** A call of a board, with its answer. */
+    private interface Call {
+        long on(FlashBoard b);
+    }
+
     private static final int[] PLACES = {0x23, 0x24, 0x25, 0x35, 0x3E, 0x3F, 0x40, 0x41, 0x44, 0x45, 0x46, 0x47, 0x4A, 0x4B,
         0x54, 0x55, 0x57, 0x5D, 0x5E, 0x5F, 0x60, 0x6E, 0xC0, 0xC1, 0xC2, 0xC4, 0xC5, 0xC6};
     private static final int[] COMMANDS = {0x01, 0x03, 0x05, 0x09, 0x11, 0x83, 0x85, 0x91, 0x81, 0x07, 0x00, 0x02, 0x1F};
@@ -10,8 +17,10 @@ public final class RandomRunsTest {
 
     private final Random random;
     private final int[] words = new int[2048];
-    private FlashBoard board;
+    private FlashBoard[] boards;
     private Model model;
+    /** How many calls each board may take yet. */
+    private int left;
     private int filled;
 
     private RandomRunsTest(long seed) {
@@ -31,18 +40,31 @@ public final class RandomRunsTest {
     }
 
     private boolean isAsDue(int seed) {
-        board = new FlashBoard();
-        int[] loader = new int[0x200];
-        for (int i = 0; i < loader.length; i++) loader[i] = board.word(0x600 + i);
-        model = new Model(loader);
-        if (seed % 8 != 0) burnProgram();
-        int calls = 300;
+        // Long passes cost more, and each board does them.
         int longest = seed % 5 == 0 ? 20000 : seed % 5 == 1 ? 300 : 12;
-        for (int i = 0; i < calls; i++) {
+        boards = new FlashBoard[seed % 5 == 0 ? 6 : 24];
+        for (int i = 0; i < boards.length; i++) boards[i] = new FlashBoard();
+        model = new Model(loader());
+        left = 512;
+        if (seed % 8 != 0) burnProgram(seed % 2 == 0 ? 2048 : 450);
+        while (left > 60) {
             String call = oneCall(longest);
-            if (!same("seed " + seed + ", call " + i + ", " + call)) return false;
+            if (!same("seed " + seed + ", " + left + " calls left, " + call)) return false;
         }
-        return true;
+        return sameInTheEnd(seed);
+    }
+
+    private static int[] loader() {
+        FlashBoard first = new FlashBoard();
+        int[] words = new int[0x200];
+        for (int i = 0; i < words.length; i++) words[i] = first.word(0x600 + i);
+        return words;
+    }
+
+    /** A call done on each board; its answer is that of the Model. */
+    private void due(String call, Call done, long want) {
+        left--;
+        for (FlashBoard b : boards) CHECKS.due(call, done.on(b), want);
     }
 
     // ---- programs
@@ -51,7 +73,8 @@ public final class RandomRunsTest {
         if (filled < 2048) words[filled++] = w & 0xFFFF;
     }
 
-    private void burnProgram() {
+    /** So many words: half of them from 0 on, half from 600 on, or all of FLASH. */
+    private void burnProgram(int size) {
         int mode = random.nextInt(4);
         filled = 0;
         while (filled < 2048) {
@@ -64,15 +87,17 @@ public final class RandomRunsTest {
                 fromPattern(mode);
             }
         }
-        for (int a = 0; a < 2048; a += 10) {
-            int[] five = new int[5];
-            for (int i = 0; i < 10; i++) {
-                int w = a + i < 2048 ? words[a + i] : random.nextInt(65536);
-                five[i / 2] |= i % 2 == 0 ? w << 16 : w;
-                if (a + i < 2048) model.flash[a + i] = w;
-            }
-            CHECKS.due("burn", board.burn(a, five[0], five[1], five[2], five[3], five[4]), Math.min(10, 2048 - a));
+        for (int a = 0; a < size; a += 10) burnTen(size == 2048 || a < size / 2 ? a : 0x600 + a - size / 2);
+    }
+
+    private void burnTen(int a) {
+        int[] five = new int[5];
+        for (int i = 0; i < 10; i++) {
+            int w = a + i < 2048 ? words[a + i] : random.nextInt(65536);
+            five[i / 2] |= i % 2 == 0 ? w << 16 : w;
+            if (a + i < 2048) model.flash[a + i] = w;
         }
+        due("burn(" + a + ")", b -> b.burn(a, five[0], five[1], five[2], five[3], five[4]), Math.min(10, 2048 - a));
     }
 
     private int place() {
@@ -166,84 +191,86 @@ public final class RandomRunsTest {
     private String oneCall(int longest) {
         int kind = random.nextInt(100);
         if (kind < 50) {
-            CHECKS.due("step()", board.step(), model.step());
+            due("step()", FlashBoard::step, model.step());
             return "step()";
         }
         if (kind < 60) return pass(1 + random.nextInt(longest));
         if (kind < 63) return run(1 + random.nextInt(Math.min(longest, 5000)));
         if (kind < 70) {
-            int b = random.nextInt();
-            if (model.atHost.size() < 300) model.atHost.addLast(b & 255);
-            CHECKS.due("host", board.host(b), model.atHost.size());
-            return "host(" + b + ")";
+            int byteOfHost = random.nextInt();
+            boolean full = model.atHost.size() >= 300;
+            if (!full) model.atHost.addLast(byteOfHost & 255);
+            due("host", b -> b.host(byteOfHost), full ? FlashBoard.NONE : model.atHost.size());
+            return "host(" + byteOfHost + ")";
         }
         if (kind < 88) return put();
-        if (kind < 92) {
-            int a = random.nextInt(4) == 0 ? random.nextInt(2048) : random.nextInt(2) * 0x600 + random.nextInt(0x200);
-            board.start(a);
-            model.pc = a;
-            model.sleeps = false;
-            return "start(" + a + ")";
-        }
+        if (kind < 92) return start(random.nextInt(4) == 0 ? random.nextInt(2048) : random.nextInt(2) * 0x600 + random.nextInt(0x200));
         return rare(kind);
     }
 
+    private String start(int a) {
+        due("start", b -> {
+            b.start(a);
+            return a;
+        }, a);
+        model.pc = a;
+        model.sleeps = false;
+        return "start(" + a + ")";
+    }
+
     private String rare(int kind) {
+        int v = kind < 96 && kind >= 94 && random.nextInt(3) > 0 ? 31 : random.nextInt();
         if (kind < 94) {
-            int v = random.nextInt();
-            CHECKS.due("pins", board.pins(v), model.pins);
+            due("pins", b -> b.pins(v), model.pins);
             model.pins = v & 255;
             return "pins(" + v + ")";
         }
         if (kind < 96) {
-            int v = random.nextInt(3) == 0 ? random.nextInt() : 31;
-            CHECKS.due("fuses", board.fuses(v), model.fuse * 16 + model.locks);
+            due("fuses", b -> b.fuses(v), model.fuse * 16 + model.locks);
             model.locks = v & 15;
             model.fuse = v >> 4 & 1;
             return "fuses(" + v + ")";
         }
-        if (kind < 97) {
-            board.reset();
-            if (model.on) model.resetAll(1);
-            return "reset()";
-        }
-        if (kind < 98) {
-            boolean on = random.nextInt(4) > 0;
-            CHECKS.due("power", board.power(on) ? 1 : 0, model.on ? 1 : 0);
-            if (on && !model.on) model.resetAll(0);
-            model.on = on;
-            return "power(" + on + ")";
-        }
-        return program();
+        if (kind < 97) return reset();
+        return kind < 98 ? power(random.nextInt(4) > 0) : program();
     }
 
-    /** A page of the program is laid anew where some has been erased. */
+    private String reset() {
+        due("reset", b -> {
+            b.reset();
+            return 0;
+        }, 0);
+        if (model.on) model.resetAll(1);
+        return "reset()";
+    }
+
+    private String power(boolean on) {
+        due("power", b -> b.power(on) ? 1 : 0, model.on ? 1 : 0);
+        if (on && !model.on) model.resetAll(0);
+        model.on = on;
+        return "power(" + on + ")";
+    }
+
+    /** Some of the program is laid anew where it may have been erased. */
     private String program() {
-        for (int i = 0; i < 2048; i++) words[i] = model.flash[i];
         int a = random.nextInt(2048);
         filled = a;
         while (filled < Math.min(2048, a + 10)) special();
-        int[] five = new int[5];
-        for (int i = 0; i < 10; i++) {
-            int w = a + i < 2048 ? words[a + i] : 0;
-            five[i / 2] |= i % 2 == 0 ? w << 16 : w;
-            if (a + i < 2048) model.flash[a + i] = w;
-        }
-        CHECKS.due("burn", board.burn(a, five[0], five[1], five[2], five[3], five[4]), Math.min(10, 2048 - a));
+        burnTen(a);
         return "burn(" + a + ")";
     }
 
     private String pass(int n) {
         int gone = 0;
         while (model.on && gone < n) gone += model.step();
-        CHECKS.due("pass(" + n + ")", board.pass(n), gone);
+        due("pass(" + n + ")", b -> b.pass(n), gone);
         return "pass(" + n + ")";
     }
 
     private String run(int n) {
         int gone = 0;
         for (int i = 0; i < n; i++) gone += model.step();
-        CHECKS.due("run(" + n + ")", board.run(n), gone);
+        due("run(" + n + ")", b -> b.run(n), gone);
         return "run(" + n + ")";
     }
 
@@ -258,39 +285,57 @@ public final class RandomRunsTest {
     }
 
     private String put(int address, int v) {
-        board.put(address, v);
+        due("put", b -> {
+            b.put(address, v);
+            return 0;
+        }, 0);
         model.mem[address] = v & 255;
         return "put(" + address + ", " + (v & 255) + ") ";
     }
 
     // ---- comparing
 
+    /** Each board is asked one thing: most often what changes most. */
     private boolean same(String where) {
-        int differences = 0;
-        for (int i = 0; i < 22; i++) differences += differs(where, "about", i, board.about(i), model.about(i));
-        for (int a = 0; a < 0x500; a++) differences += differs(where, "data", a, board.data(a), model.look(a));
-        differences += differs(where, "sent", 0, board.sent(), model.hostHas.size());
-        if (differences > 0 || random.nextInt(8) > 0) return differences == 0;
-        for (int a = 0; a < 2048; a++) differences += differs(where, "word", a, board.word(a), model.flash[a]);
-        for (int k = 0; k < 256; k++) differences += differs(where, "eeprom", k, board.eeprom(k), model.ee[k]);
-        for (int i = 0; i < 1001; i++) differences += differs(where, "got", i, got(i), wanted(i));
-        return differences == 0;
+        left--;
+        boolean same = true;
+        for (FlashBoard b : boards) same &= same(where, b, somethingToAsk());
+        return same;
+    }
+
+    private int somethingToAsk() {
+        int kind = random.nextInt(16);
+        if (kind < 6) return random.nextInt(Readings.DATA);
+        if (kind < 10) return Readings.DATA + PLACES[random.nextInt(PLACES.length)];
+        if (kind < 12) return Readings.DATA + random.nextInt(0x60);
+        if (kind < 13) return Readings.DATA + model.about(1) % 0x4FE + random.nextInt(3);
+        if (kind < 14) return Readings.DATA + random.nextInt(0x500);
+        return random.nextInt(Readings.PINS);
+    }
+
+    private boolean sameInTheEnd(int seed) {
+        boolean same = true;
+        int next = random.nextInt(Readings.PINS);
+        for (FlashBoard b : boards) {
+            for (int i = 0; i < left; i++) same &= same("seed " + seed + ", in the end", b, next++ % Readings.PINS);
+        }
+        return same;
+    }
+
+    private boolean same(String where, FlashBoard b, int i) {
+        int got = Readings.one(b, i);
+        int want = wanted(i);
+        CHECKS.due(got == want ? where : where + ": " + Readings.name(i), got, want);
+        return got == want;
     }
 
     private int wanted(int i) {
-        return i < model.hostHas.size() && i < 1000 ? model.hostHas.get(i) : -1;
-    }
-
-    private int got(int i) {
-        try {
-            return board.got(i);
-        } catch (NoSuchElementException e) {
-            return -1;
-        }
-    }
-
-    private int differs(String where, String call, int i, int got, int want) {
-        CHECKS.due(got == want ? call : where + ": " + call + "(" + i + ")", got, want);
-        return got == want ? 0 : 1;
+        if (i < Readings.DATA) return model.about(i);
+        if (i < Readings.WORD) return model.look(i - Readings.DATA);
+        if (i < Readings.EEPROM) return model.flash[i - Readings.WORD];
+        if (i < Readings.SENT) return model.ee[i - Readings.EEPROM];
+        if (i < Readings.GOT) return model.hostHas.size();
+        int k = i - Readings.GOT;
+        return k < model.hostHas.size() && k < 1000 ? model.hostHas.get(k) : -1;
     }
 }
