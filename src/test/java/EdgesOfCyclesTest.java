@@ -15,7 +15,9 @@ public final class EdgesOfCyclesTest {
         eepromHolds();
         eepromBits();
         eepromReads();
+        eepromWindowWhileWriting();
         dogWindow();
+        dogChanges();
         dogBytes();
         dogPeriods();
         dogAtLeast();
@@ -104,6 +106,15 @@ public final class EdgesOfCyclesTest {
         b.run(2);
         C.due("beyond 47 it turns over, too", b.data(0x46), 0);
         C.due("with bit 0", b.data(0x35), 1);
+        // Bits of 35 that are 1 already stay so.
+        b = running(0, 0x80, 0x70);
+        b.start(0x200);
+        b.pass(0x20);
+        C.due("bit 1", b.data(0x35), 2);
+        b.pass(0x80);
+        C.due("and bit 0", b.data(0x35), 3);
+        b.pass(0x100);
+        C.due("both again", b.data(0x35), 3);
     }
 
     /** "46 is 0 if bit 1 of 44 is 1 and it is 47"; "Then, if it is 47, bit 1 of 35 is 1." */
@@ -312,6 +323,7 @@ public final class EdgesOfCyclesTest {
             C.due("40", b.data(0x40), 0xFF);
             C.due("the next instruction has no more", b.step(), 1);
         }
+        for (int k : new int[] {0, 1, 2, 0x55, 0x7F, 0x80, 0xFE, 0xFF}) readsThatByte(k);
         // A CALL whose PUSHED low byte has bit 0: 4 and 4.
         FlashBoard b = new Code().w(0x940E, 0x0200).board(0x0FF);
         Code.pair(b, 0x5D, 0x3F);
@@ -319,6 +331,35 @@ public final class EdgesOfCyclesTest {
         b = new Code().w(0xD000).board(0x100);
         Code.pair(b, 0x5D, 0x40);
         C.due("RCALL PUSHES its high byte 01", b.step(), 7);
+    }
+
+    /** The byte at 41 and none of its neighbours: one of them has been written. */
+    private static void readsThatByte(int k) {
+        FlashBoard b = writing(k, k ^ 0x5A).board(0x100);
+        new Code().out(0x41, 25).ldi(24, 0x11).out(0x40, 24).ldi(24, 1).out(0x3F, 24).w(0x9588).burn(b, 0x180);
+        b.pass(3500);
+        for (int at : new int[] {k, k ^ 1, k ^ 0x80, k ^ 0xFF, k}) {
+            b.put(25, at);
+            b.start(0x180);
+            b.run(5);
+            C.due("the byte at " + hex(at), b.data(0x40), at == k ? k ^ 0x5A : 0xFF);
+            C.due("41 stays", b.data(0x41), at);
+        }
+    }
+
+    /** "a 1 at bit 2: it is 1, with a WINDOW": no other bit makes it so, and a write that goes on hinders none. */
+    private static void eepromWindowWhileWriting() {
+        for (int v = 0; v < 16; v++) {
+            FlashBoard b = writing(5, 0x12).board(0x100);
+            new Code().out(0x3F, 25).w(0x9588).burn(b, 0x180);
+            b.run(6);
+            b.put(25, v);
+            b.start(0x180);
+            C.due("one cycle", b.step(), 1);
+            C.due("3F by " + hex(v) + " while it writes", b.data(0x3F), v & 0x0C | 2);
+            C.due("WINDOW by " + hex(v) + " while it writes", b.about(19), (v & 4) != 0 ? 3 : 0);
+            C.due("it writes on", b.about(15), 3397);
+        }
     }
 
     // ---- WATCHDOG
@@ -358,6 +399,22 @@ public final class EdgesOfCyclesTest {
         C.due("10 begins no WINDOW", b.about(17), 0);
         b.run(2);
         C.due("so 08 changes nothing", b.data(0x60), 0);
+    }
+
+    /** "then if bit 4 was 1 and is 0 in the byte: bits 5, 3 .. 0": each 0 and 1 of them; bit 7 stays by a 0. */
+    private static void dogChanges() {
+        for (int v = 0; v < 256; v++) {
+            if ((v & 0x10) != 0) continue;
+            FlashBoard b = dog(0x40).board(0x700);
+            b.pass(4200);
+            C.due("flag", b.data(0x60), 0xC0);
+            new Code().ldi(24, 0x58).ldi(25, 0x6F).ldi(26, v).sts(0x60, 24).sts(0x60, 25).sts(0x60, 24).sts(0x60, 26).burn(b, 0x720);
+            b.start(0x720);
+            b.run(5);
+            C.due("all 1, the flag stays", b.data(0x60), 0xEF);
+            b.run(2);
+            C.due("then " + hex(v), b.data(0x60), v & 0x6F | (v < 0x80 ? 0x80 : 0));
+        }
     }
 
     /** Each byte within the WINDOW, and without. */

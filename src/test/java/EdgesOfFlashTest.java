@@ -380,6 +380,16 @@ public final class EdgesOfFlashTest {
         b.run(3);
         C.due("behind 1000", b.data(0x57), 0);
         C.due("BUFFER", b.about(8), 0);
+        // An ERASE, a WRITE, an ERASE, without 1000 between them.
+        b = erasing(0x03);
+        for (int command : new int[] {5, 3}) {
+            b.pass(8000);
+            new Code().spm(command).w(0x9588).burn(b, FREE + 0x20);
+            b.start(FREE + 0x20);
+            b.run(3);
+            C.due("bit 6 again", b.data(0x57), 0x40 | command);
+            C.due("BUSY", b.about(7), 7999);
+        }
     }
 
     /** "of the word (Z / 2) MOD 2048 the low byte if Z is even, else the high one". */

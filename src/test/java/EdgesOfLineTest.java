@@ -13,6 +13,7 @@ public final class EdgesOfLineTest {
         senderOffThenOn();
         storedAsFrameEnds();
         allSentAsFrameEnds();
+        allSentAgain();
         stateBits();
         beginsWithinACycle();
         hostEmpty();
@@ -153,6 +154,17 @@ public final class EdgesOfLineTest {
             b.start(0x180);
             b.step();
             C.due("bit 6 by a STORE", b.data(0xC0), 0x20);
+        }
+    }
+
+    /** "at its end the host has it, and if none waits bit 6 is 1": when it was 1 already, too. */
+    private static void allSentAgain() {
+        FlashBoard b = new Code().set(0xC1, 8).sts(0xC6, 20).w(0x9588).board(0x100);
+        for (int sent = 1; sent <= 3; sent++) {
+            b.start(0x100);
+            b.pass(200);
+            C.due("bit 6", b.data(0xC0), 0x60);
+            C.due("sent", b.sent(), sent);
         }
     }
 

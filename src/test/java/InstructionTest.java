@@ -36,6 +36,7 @@ public final class InstructionTest {
         ofOne();
         pairs();
         allSums();
+        allBytes();
         allPairs();
         bits();
         skips();
@@ -104,10 +105,12 @@ public final class InstructionTest {
     private static void products() {
         one("MUL", words(0x9F01), N | V, at(16, 0xFF, 17, 0xFF), at(2, 0x41, N | V | CY), at(0, 1, 1, 0xFE));
         one("MUL 0", words(0x9F01), CY, at(16, 0xFF, 17, 0, 0, 9, 1, 9), at(2, 0x41, Z), at(0, 0, 1, 0));
+        one("MUL odd, C 0", words(0x9F01), CY, at(16, 3, 17, 5), at(2, 0x41, 0), at(0, 15, 1, 0));
         one("MUL R1, R0", words(0x9C10), 0, at(0, 0x10, 1, 0x21), at(2, 0x41, 0), at(0, 0x10, 1, 2));
         one("MULS -1 * 2", words(0x0201), 0, at(16, 0xFF, 17, 2), at(2, 0x41, CY), at(0, 0xFE, 1, 0xFF));
         one("MULS R31, R16", words(0x02F0), 0, at(31, 0x80, 16, 0x80), at(2, 0x41, 0), at(0, 0, 1, 0x40));
         one("MULSU -1 * FF", words(0x0301), 0, at(16, 0xFF, 17, 0xFF), at(2, 0x41, CY), at(0, 1, 1, 0xFF));
+        one("MULSU R17, R23", words(0x0317), 0, at(16, 9, 17, 0xFE, 22, 9, 23, 3), at(2, 0x41, CY), at(0, 0xFA, 1, 0xFF));
         one("FMUL C0 * C0", words(0x0309), 0, at(16, 0xC0, 17, 0xC0), at(2, 0x41, CY), at(0, 0, 1, 0x20));
         one("FMUL 80 * 80", words(0x0309), CY, at(16, 0x80, 17, 0x80), at(2, 0x41, 0), at(0, 0, 1, 0x80));
         one("FMULS 80 * 80", words(0x0381), 0, at(16, 0x80, 17, 0x80), at(2, 0x41, 0), at(0, 0, 1, 0x80));
@@ -136,6 +139,10 @@ public final class InstructionTest {
         one("ADIW 7FFF", words(0x9611), 0, at(26, 0xFF, 27, 0x7F), at(2, 0x41, V | N), at(26, 0, 27, 0x80));
         one("SBIW R31 R30, 1", words(0x9731), 0, at(30, 0, 31, 0), at(2, 0x41, S | N | CY), at(30, 0xFF, 31, 0xFF));
         one("SBIW 8000", words(0x9721), 0, at(28, 0, 29, 0x80), at(2, 0x41, S | V), at(28, 0xFF, 29, 0x7F));
+        one("ADIW 4", words(0x9604), 0, at(24, 0, 25, 1), at(2, 0x41, 0), at(24, 4, 25, 1));
+        one("ADIW 10", words(0x9640), 0, at(24, 0, 25, 1), at(2, 0x41, 0), at(24, 0x10, 25, 1));
+        one("ADIW 20", words(0x9680), 0, at(24, 0, 25, 1), at(2, 0x41, 0), at(24, 0x20, 25, 1));
+        one("SBIW 0F", words(0x970F), 0, at(24, 0, 25, 1), at(2, 0x41, 0), at(24, 0xF1, 25, 0));
         one("SBIW to 0", words(0x97CF), 0, at(24, 0x3F, 25, 0), at(2, 0x41, Z), at(24, 0, 25, 0));
     }
 
@@ -152,7 +159,8 @@ public final class InstructionTest {
             if (i % 32 == 0) b = code.board(0);
             int x = i & 255;
             int y = i >> 8 & 255;
-            int sreg = i >> 16;
+            // The flags that become 0 were 1 in every other sum.
+            int sreg = i >> 16 | (x + y) % 2 * (H | S | V | N);
             int c = sreg & 1;
             int sum = x + y + c;
             boolean v = (byte) x + (byte) y + c != (byte) sum;
@@ -176,6 +184,34 @@ public final class InstructionTest {
         b.step();
     }
 
+    /** What one byte becomes, for each byte, with flags that were 0 and that were 1. */
+    private static void allBytes() {
+        for (int i = 0; i < 512; i++) {
+            int x = i & 255;
+            int sreg = i < 256 ? 0 : 0xFF;
+            int kept = sreg & (I | T | H);
+            int c = sreg & CY;
+            ofByte("COM", 0x9500, x, sreg, 255 - x, kept | CY, false);
+            ofByte("INC", 0x9503, x, sreg, x + 1 & 255, kept | c, x == 0x7F);
+            ofByte("DEC", 0x950A, x, sreg, x - 1 & 255, kept | c, x == 0x80);
+            int out = x % 2;
+            ofByte("ASR", 0x9505, x, sreg, x / 2 | x & 128, kept | out * CY, x >= 128 != (out == 1));
+            ofByte("LSR", 0x9506, x, sreg, x / 2, kept | out * CY, out == 1);
+            ofByte("ROR", 0x9507, x, sreg, x / 2 | c * 128, kept | out * CY, c != out);
+            ofByte("AND itself", 0x2300, x, sreg, x, kept | c, false);
+            ofByte("ANDI 5A", 0x750A, x, sreg, x & 0x5A, kept | c, false);
+            ofByte("ORI A5", 0x6A05, x, sreg, x | 0xA5, kept | c, false);
+            one("SWAP", words(0x9502), sreg, at(16, x), at(1, 0x41, sreg), at(16, x % 16 * 16 + x / 16));
+        }
+    }
+
+    /** N, Z by the result, V as told, S N other than V; all other flags as told. */
+    private static void ofByte(String name, int word, int x, int sreg, int result, int others, boolean v) {
+        boolean n = result >= 128;
+        int want = others | (v ? V : 0) | (n ? N : 0) | (n != v ? S : 0) | (result == 0 ? Z : 0);
+        one(name + " " + x, words(word), sreg, at(16, x), at(1, 0x41, want), at(16, result));
+    }
+
     /** ADIW, SBIW by 1 and 3F of every pair. */
     private static void allPairs() {
         Code code = new Code().w(0x9601, 0x96CF, 0x9701, 0x97CF);
@@ -188,7 +224,7 @@ public final class InstructionTest {
             b.start(which);
             b.put(24, pair);
             b.put(25, pair >> 8);
-            b.put(0x5F, 0);
+            b.put(0x5F, pair % 3 == 0 ? S | V | N | Z | CY : 0);
             b.step();
             C.due("pair", b.data(25) << 8 | b.data(24), exact & 0xFFFF);
             boolean n = (exact & 0x8000) != 0;
@@ -200,12 +236,21 @@ public final class InstructionTest {
     private static void bits() {
         for (int s = 0; s < 8; s++) {
             one("bit " + s + " is 1", words(0x9408 | s << 4), 0, at(), at(1, 0x41, 1 << s), at());
+            one("bit " + s + " is 1, as all others", words(0x9408 | s << 4), 0xFF ^ 1 << s, at(), at(1, 0x41, 0xFF), at());
+            one("bit " + s + " is 0, as all others", words(0x9488 | s << 4), 1 << s, at(), at(1, 0x41, 0), at());
             one("bit " + s + " is 0", words(0x9488 | s << 4), 0xFF, at(), at(1, 0x41, 0xFF ^ 1 << s), at());
         }
         one("BST R5, 3 of 8", words(0xFA53), 0, at(5, 8), at(1, 0x41, T), at(5, 8));
         one("BST R5, 3 of F7", words(0xFA53), 0xFF, at(5, 0xF7), at(1, 0x41, 0xBF), at(5, 0xF7));
         one("BLD R21, 7", words(0xF957), T, at(21, 0), at(1, 0x41, T), at(21, 0x80));
         one("BLD R21, 0", words(0xF950), 0, at(21, 0xFF), at(1, 0x41, 0), at(21, 0xFE));
+        for (int n = 0; n < 8; n++) {
+            int bit = 1 << n;
+            one("BLD 0 of FF, " + n, words(0xF950 | n), CY, at(21, 0xFF), at(1, 0x41, CY), at(21, 0xFF ^ bit));
+            one("BLD 1 of 0, " + n, words(0xF950 | n), T, at(21, 0), at(1, 0x41, T), at(21, bit));
+            one("BST 1 alone, " + n, words(0xFA50 | n), 0, at(5, bit), at(1, 0x41, T), at(5, bit));
+            one("BST 0 alone, " + n, words(0xFA50 | n), 0, at(5, 0xFF ^ bit), at(1, 0x41, 0), at(5, 0xFF ^ bit));
+        }
         one("BST with bit 3", words(0xFA5B), 0, at(5, 8), at(1, 0x41, 0), at());
         one("BLD with bit 3", words(0xF95F), T, at(21, 0), at(1, 0x41, T), at(21, 0));
     }
@@ -322,6 +367,7 @@ public final class InstructionTest {
         one("POP of SPL", words(0x905F), 0, at(0x5D, 0x5C, 0x5E, 0), at(2, 0x41, 0), at(5, 0x5D));
         one("PUSH into SREG", words(0x925F), 0, at(5, 0x42, 0x5D, 0x5F, 0x5E, 0), at(2, 0x41, 0x42), at(0x5D, 0x5E));
         one("RET", words(0x9508), 0, at(0x5D, 0xFD, 0x4FE, 0xFA, 0x4FF, 0xBC), at(4, 0x2BC, 0), at(0x5D, 0xFF));
+        one("RETI with I", words(0x9518), I, at(0x5D, 0xFD, 0x4FE, 5, 0x4FF, 0xBC), at(4, 0x5BC, I), at(0x5D, 0xFF));
         one("RETI", words(0x9518), T, at(0x5D, 0xFD, 0x4FE, 5, 0x4FF, 0xBC), at(4, 0x5BC, T | I), at(0x5D, 0xFF));
     }
 
@@ -331,7 +377,7 @@ public final class InstructionTest {
         one("RJMP - 800", words(0xC800), 0, at(), at(2, 0x41, 0), at());
         one("RJMP - 42", words(0xCFBE), 0, at(), at(2, 0x7FF, 0), at());
         one("RCALL + 1", words(0xD001), 0, at(), at(3, 0x42, 0), at(0x4FF, 0x41, 0x4FE, 0, 0x5D, 0xFD));
-        one("JMP", words(0x940C, 0x0123), 0, at(), at(3, 0x123, 0), at());
+        one("JMP", words(0x940C, 0x0123), 0, at(0x4FE, 7, 0x4FF, 8), at(3, 0x123, 0), at(0x4FE, 7, 0x4FF, 8, 0x5D, 0xFF, 0x5E, 4));
         one("JMP with k's higher bits", words(0x95FD, 0xF923), 0, at(), at(3, 0x123, 0), at());
         one("CALL", words(0x940E, 0x07FF), 0, at(), at(4, 0x7FF, 0), at(0x4FF, 0x42, 0x4FE, 0, 0x5D, 0xFD));
         one("IJMP", words(0x9409), 0, at(30, 0x34, 31, 0xFA), at(2, 0x234, 0), at(0x5D, 0xFF));
