@@ -24,6 +24,10 @@ public final class RulesTest {
         "got(int)int", "burn(int,int,int,int,int,int)int", "word(int)int", "data(int)int", "put(int,int)void", "eeprom(int)int",
         "pins(int)int", "fuses(int)int", "start(int)void", "reset()void", "power(boolean)boolean", "about(int)int");
 
+    /** What the machine throws by itself, and the classes above that: no call is answered by catching these. */
+    private static final String MACHINE = "(final )?(Throwable|Exception|RuntimeException|\\w*IndexOutOf\\w+|NullPointer\\w+|Arithmetic\\w+"
+        + "|ClassCast\\w+|NegativeArray\\w+|ArrayStore\\w+)";
+
     public static void main(String[] args) throws Exception {
         String source = Files.readString(Path.of("src/main/java/FlashBoard.java"));
         face();
@@ -90,10 +94,10 @@ public final class RulesTest {
         for (char c : source.toCharArray()) ascii &= c == '\n' || c >= 32 && c < 127;
         holds("plain signs", ascii);
         String code = source.replaceAll("(?s)/\\*.*?\\*/", "").replaceAll("//[^\n]*", "").replaceAll("\"[^\"]*\"", "\"\"");
-        String[] banned = {"->", "::", "\\bassert\\b", "\\bsynchronized\\b", "\\bfinally\\b", "\\bcatch\\b", "\\btry\\b",
-            "\\binstanceof\\b", "\\bpackage\\b", "\\bprotected\\b", "static \\{", "\\bnull\\b", "\\bThread\\b", "\\bMath\\.",
-            "System\\.(?!arraycopy)", "Integer\\.(?!bitCount)", "Arrays\\.(?!fill)", "\\bjava\\.(?!util\\.(Arrays|NoSuch))",
-            "\\bpublic static (?!final int NONE)", "\\bdouble\\b|\\bfloat\\b|\\bvar\\b|\\bwhile\\b|\\bdo\\b"};
+        String[] banned = {"->", "::", "\\bassert\\b", "\\bsynchronized\\b", "\\bfinally\\b",
+            "\\bpackage\\b", "\\bprotected\\b", "static \\{", "\\bThread\\b", "Exact\\(", "System\\.(?!arraycopy)",
+            "Arrays\\.(?!fill|copyOf)", "\\bjava\\.(?!util\\.(Arrays|ArrayList|List|Iterator|NoSuchElementException);)",
+            "\\bpublic static (?!final int NONE)", "(equals|hashCode|toString)\\(.*\\) \\{", "catch \\(" + MACHINE};
         for (String b : banned) {
             Matcher m = Pattern.compile(b).matcher(code);
             holds("no " + b, !m.find());
