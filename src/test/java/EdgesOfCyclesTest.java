@@ -10,6 +10,7 @@ public final class EdgesOfCyclesTest {
         storedInTheCycleOfATick();
         timerBits();
         eepromAddresses();
+        eepromAnew();
         eepromWindow();
         eepromTo3400();
         eepromHolds();
@@ -212,6 +213,17 @@ public final class EdgesOfCyclesTest {
             b.run(6);
             for (int i = 0; i < 256; i += 1) C.due("byte " + i, b.eeprom(i), i == k ? k ^ 0x5A : 0xFF);
             C.due("41", b.data(0x41), k);
+        }
+    }
+
+    /** "the byte at 41 becomes 40": whatever it was. */
+    private static void eepromAnew() {
+        FlashBoard b = new Code().out(0x40, 25).w(0x9AFA, 0x9AF9, 0x9588).board(0x100);
+        for (int v : new int[] {0x0F, 0xF0, 0, 0xFF, 0x55}) {
+            b.put(25, v);
+            b.start(0x100);
+            b.pass(3500);
+            C.due("byte 0 becomes " + v, b.eeprom(0), v);
         }
     }
 

@@ -208,7 +208,7 @@ public final class EdgesOfStepsTest {
             b.step();
             C.due("an ENTRY at once", b.about(0), 0x0A);
         }
-        int[] others = {0x9468, 0x9488, 0x0000, 0x9508, 0x9479, 0x9528};
+        int[] others = {0x94F8, 0x9468, 0x9488, 0x0000, 0x9508, 0x9479, 0x9528};
         for (int w : others) {
             FlashBoard b = new Code().set(0xC1, 0x20).w(w).board(0x100);
             Code.pair(b, 0x5D, 0x4F0);
@@ -480,6 +480,7 @@ public final class EdgesOfStepsTest {
         C.due("without power as it was", b.data(0x54), 0x0B);
         b.power(true);
         C.due("by power alone", b.data(0x54), 1);
+        C.due("RESETS by the watchdog are told yet", b.about(6), 1);
         C.due("so bit 3 of 60 is 0", b.data(0x60), 0);
         new Code().ldi(24, 0).out(0x54, 24).burn(b, FREE);
         b.start(FREE);

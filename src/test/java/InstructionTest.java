@@ -43,6 +43,7 @@ public final class InstructionTest {
         ports();
         loads();
         stores();
+        ownPairs();
         atDistance();
         stack();
         jumps();
@@ -288,6 +289,12 @@ public final class InstructionTest {
         C.due("turns one over", b.data(0x25), 0x6F);
         C.due("CBI 23, 5", b.step(), 2);
         C.due("does nothing", b.data(0x25), 0x6F);
+        b = new Code().w(0x9A1C, 0x9A1C).board(0);
+        b.pins(0xFF);
+        b.step();
+        C.due("SBI 23, 4 stores that bit alone", b.data(0x25), 0x10);
+        b.step();
+        C.due("and again", b.data(0x25), 0);
         holds();
     }
 
@@ -345,6 +352,32 @@ public final class InstructionTest {
         one("ST X, a register", words(0x925C), 0, at(26, 9, 5, 0x66), at(2, 0x41, 0), at(9, 0x66));
     }
 
+    /** Of X, Y, Z: their own bytes LOADED and STORED, and at their own addresses. */
+    private static void ownPairs() {
+        int[] lows = {26, 28, 30};
+        int[] more = {0x900D, 0x9009, 0x9001};
+        int[] less = {0x900E, 0x900A, 0x9002};
+        for (int i = 0; i < 3; i++) {
+            int low = lows[i];
+            int[] at1FF = at(low, 0xFF, low + 1, 1, 0x1FF, 0x77, 0x1FE, 0x66);
+            int[] at200 = at(low, 0, low + 1, 2, 0x200, 0x55, 0x1FF, 0x77);
+            one("LD low, +", words(more[i] | low << 4), 0, at1FF, at(2, 0x41, 0), at(low, 0x77, low + 1, 2));
+            one("LD high, +", words(more[i] | low + 1 << 4), 0, at1FF, at(2, 0x41, 0), at(low, 0, low + 1, 0x77));
+            one("LD low, -", words(less[i] | low << 4), 0, at200, at(2, 0x41, 0), at(low, 0x77, low + 1, 1));
+            one("LD high, -", words(less[i] | low + 1 << 4), 0, at200, at(2, 0x41, 0), at(low, 0xFF, low + 1, 0x77));
+            one("ST low, +", words(more[i] | 0x200 | low << 4), 0, at1FF, at(2, 0x41, 0), at(0x1FF, 0xFF, low, 0, low + 1, 2));
+            one("ST high, +", words(more[i] | 0x200 | low + 1 << 4), 0, at1FF, at(2, 0x41, 0), at(0x1FF, 1, low, 0, low + 1, 2));
+            one("ST low, -", words(less[i] | 0x200 | low << 4), 0, at200, at(2, 0x41, 0), at(0x1FF, 0, low, 0xFF, low + 1, 1));
+            one("ST high, -", words(less[i] | 0x200 | low + 1 << 4), 0, at200, at(2, 0x41, 0), at(0x1FF, 2, low, 0xFF, low + 1, 1));
+            int[] own = at(low, low, low + 1, 0, 5, 0x80);
+            one("LD own, + " + low, words(more[i] | 5 << 4), 0, own, at(2, 0x41, 0), at(5, low, low, low + 1, low + 1, 0));
+            one("LD own, - " + low, words(less[i] | 5 << 4), 0, at(low, low + 1, low + 1, 0), at(2, 0x41, 0), at(5, low, low, low));
+            // STORED at its address, and then it is 1 more.
+            one("ST own, + " + low, words(more[i] | 0x250), 0, own, at(2, 0x41, 0), at(low, 0x81, low + 1, 0));
+            one("ST own, - " + low, words(less[i] | 0x250), 0, at(low, low + 1, low + 1, 0, 5, 0x80), at(2, 0x41, 0), at(low, 0x80));
+        }
+    }
+
     private static void atDistance() {
         int[] y = at(28, 0, 29, 2, 30, 0, 31, 3, 0x200, 1, 0x201, 2, 0x23F, 3, 0x300, 4, 0x320, 5);
         one("LD Y", words(0x8058), 0, y, at(2, 0x41, 0), at(5, 1));
@@ -354,6 +387,8 @@ public final class InstructionTest {
         one("LDD Z + 20", words(0xA050), 0, y, at(2, 0x41, 0), at(5, 5));
         one("STD Y + 8", words(0x8658), 0, at(5, 6, 28, 0, 29, 2), at(2, 0x41, 0), at(0x208, 6));
         one("STD Z + 10", words(0x8A50), 0, at(5, 7, 30, 0, 31, 2), at(2, 0x41, 0), at(0x210, 7));
+        one("ST Y beyond, Rd stays", words(0x8258), 0, at(5, 7, 28, 0, 29, 5), at(2, 0x41, 0), at(5, 7, 28, 0, 29, 5));
+        one("STD Z + 3F, a byte that turns bits over", words(0xAE57), 0, at(5, 7, 30, 0xE4, 31, 0xFF), at(2, 0x41, 0), at(0x25, 7, 5, 7));
         one("LDD Z + 2 at FFFF", words(0x8052), 0, at(1, 8, 30, 0xFF, 31, 0xFF), at(2, 0x41, 0), at(5, 8));
     }
 
@@ -381,6 +416,7 @@ public final class InstructionTest {
         one("JMP with k's higher bits", words(0x95FD, 0xF923), 0, at(), at(3, 0x123, 0), at());
         one("CALL", words(0x940E, 0x07FF), 0, at(), at(4, 0x7FF, 0), at(0x4FF, 0x42, 0x4FE, 0, 0x5D, 0xFD));
         one("IJMP", words(0x9409), 0, at(30, 0x34, 31, 0xFA), at(2, 0x234, 0), at(0x5D, 0xFF));
+        one("ICALL that is PUSHED into Z", words(0x9509), 0, at(30, 0, 31, 0, 0x5D, 31, 0x5E, 0), at(3, 0x100, 0), at(31, 0x41, 30, 0));
         one("ICALL", words(0x9509), 0, at(30, 0x34, 31, 2), at(3, 0x234, 0), at(0x4FF, 0x41, 0x5D, 0xFD));
         for (int s = 0; s < 8; s++) {
             one("BRBS taken " + s, words(0xF008 | s), 1 << s, at(), at(2, 0x42, 1 << s), at());
